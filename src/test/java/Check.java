@@ -27,6 +27,12 @@ final class Check {
     /** The call is due to throw just this kind of exception, and to change nothing of x. */
     void dueThrows(String call, IntervalSolver x, Class<? extends RuntimeException> kind, Call made) {
         String before = State.of(x);
+        dueThrows(call, kind, made);
+        due("the state behind " + call, State.of(x), before);
+    }
+
+    /** The call is due to throw just this kind of exception. */
+    void dueThrows(String call, Class<? extends RuntimeException> kind, Call made) {
         String thrown = "nothing";
         try {
             made.make();
@@ -34,7 +40,6 @@ final class Check {
             thrown = e.getClass().getSimpleName();
         }
         due(call + " throws", thrown, kind.getSimpleName());
-        due("the state behind " + call, State.of(x), before);
     }
 
     void index(String call, IntervalSolver x, Call made) {

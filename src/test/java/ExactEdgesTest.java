@@ -19,6 +19,7 @@ public final class ExactEdgesTest {
         conditionIsRoundedTwice();
         conditionOfManyRows();
         variationOfZero();
+        variationOfFourSpreads();
         variationOfGreatestSpreads();
         variationTakesTheGreatestRow();
         safeBelowOne();
@@ -267,6 +268,7 @@ public final class ExactEdgesTest {
         IntervalSolver x = State.system(State.row(10, 0, 0, 0), State.row(9, -1, 0, 0));
         CHECK.due("20: 19 / 10", x.condition(), 10.0 * 1.9);
         CHECK.due("20: steep", State.steep().condition(), 409.0 * 1367036486.0);
+        CHECK.due("20: p and q beyond 32 bits", crossed(5, 99).condition(), 495.0 * (1.0 / 99.0));
     }
 
     /** 20: the greatest sums are those of any row, with absolute values. */
@@ -290,6 +292,20 @@ public final class ExactEdgesTest {
             x.setSpread(n - 1, 0, 1);
             CHECK.due("21, 22: the least, " + n, State.variation(x), "1/9900");
         }
+    }
+
+    /** 21, 22: each entry of the inverse meets the spreads of its own row. */
+    private static void variationOfFourSpreads() {
+        IntervalSolver x = State.system(State.row(2, 1, 0, 0), State.row(1, 3, 0, 0));
+        x.setSpread(0, 0, 10);
+        x.setSpread(0, 1, 20);
+        x.setSpread(1, 0, 30);
+        x.setSpread(1, 1, 40);
+        CHECK.due("21, 22: row 1 of the inverse is the greatest", State.variation(x), "17/50");
+        x.swapRows(0, 1);
+        CHECK.due("21, 22: with exchanged rows", State.variation(x), "17/50");
+        x.setSpread(0, 0, 0);
+        CHECK.due("21, 22: row 0 of the inverse is the greatest", State.variation(x), "13/50");
     }
 
     private static void variationOfGreatestSpreads() {

@@ -27,15 +27,17 @@ public final class SystemTest {
     }
 
     private static void setSize() {
-        IntervalSolver x = new IntervalSolver();
         for (int n = 1; n <= 5; n++) {
+            IntervalSolver x = new IntervalSolver();
+            fillWithOnes(x, 5);
             CHECK.due("2: setSize(" + n + ")", x.setSize(n), n);
             CHECK.due("2: state after setSize(" + n + ")", State.of(x), State.of(State.system(empty(n))));
             fillWithOnes(x, 5);
             CHECK.due("2: setSize(5)", x.setSize(5), 5);
             CHECK.due("2: state after setSize(5)", State.of(x), State.of(State.system(empty(5))));
-            fillWithOnes(x, 5);
         }
+        IntervalSolver x = new IntervalSolver();
+        fillWithOnes(x, 2);
         for (int wrong : State.row(0, 6, -1, Integer.MIN_VALUE, Integer.MAX_VALUE)) {
             CHECK.argument("2: setSize(" + wrong + ")", x, () -> x.setSize(wrong));
         }
