@@ -5,10 +5,11 @@ final class State {
 
     /** All that can be read of the state, but for the spreads, which the digest tells. */
     static String of(IntervalSolver x) {
+        int n = x.size();
         StringBuilder text = new StringBuilder();
-        text.append(x.size()).append(';');
-        for (int i = 0; i < x.size(); i++) {
-            for (int j = 0; j < x.size(); j++) {
+        text.append(n).append(';');
+        for (int i = 0; i < n; i++) {
+            for (int j = 0; j < n; j++) {
                 text.append(x.coefficient(i, j)).append(' ');
             }
             text.append("= ").append(x.rightLow(i)).append("..").append(x.rightHigh(i));
